@@ -137,7 +137,6 @@ public final class HandleHeap {
 
     public int put(int handle, int i, int v)
             throws IllegalArgumentException, IllegalStateException, IndexOutOfBoundsException {
-        checkInUse(handle);
         if (v < 0 || v > GREATEST_VALUE) {
             throw new IllegalArgumentException("v is not 0 to 255");
         }
