@@ -46,7 +46,7 @@ final class Scene {
         this.title = title;
         for (String row : text.split("[;\n]")) {
             if (!row.isBlank()) {
-                read(row.trim());
+                addRow(row.trim());
             }
         }
     }
@@ -65,42 +65,42 @@ final class Scene {
 
     // Reading rows.
 
-    private void read(String row) {
+    private void addRow(String row) {
         String[] sides = row.split("=");
         String[] words = sides[0].trim().split(" +");
         String[] dues = sides.length > 1 ? sides[1].trim().split(" +") : new String[] {""};
         if (words.length > 1 && words[1].equals("x")) {
-            repeat(Integer.parseInt(words[0]), sides[0].substring(sides[0].indexOf('x') + 1).trim());
+            addRepeated(Integer.parseInt(words[0]), sides[0].substring(sides[0].indexOf('x') + 1).trim());
         } else if (words.length > 1 && words[1].equals("each")) {
-            callEach(Integer.parseInt(words[0]), words[2]);
+            addEach(Integer.parseInt(words[0]), words[2]);
         } else if (words[0].equals("wheres") || words[0].equals("sizes") || words[0].equals("tells")) {
-            lookAtEach(words[0].equals("tells") ? "told" : words[0].substring(0, words[0].length() - 1), dues);
+            addLooks(words[0].equals("tells") ? "told" : words[0].substring(0, words[0].length() - 1), dues);
         } else if (words[0].equals("write") || words[0].equals("read") || words[0].equals("zero")) {
-            bytes(words);
+            addByteRows(words);
         } else {
             rows.add(new Row(String.join(" ", words), due(dues[0])));
         }
     }
 
-    private void repeat(int times, String call) {
+    private void addRepeated(int times, String call) {
         for (int k = 0; k < times; k++) {
             rows.add(new Row(call, ""));
         }
     }
 
-    private void callEach(int handles, String call) {
+    private void addEach(int handles, String call) {
         for (int h = 0; h < handles; h++) {
             rows.add(new Row(call + " " + h, ""));
         }
     }
 
-    private void lookAtEach(String call, String[] dues) {
+    private void addLooks(String call, String[] dues) {
         for (int k = 0; k < dues.length; k++) {
             rows.add(new Row(call + " " + k, due(dues[k])));
         }
     }
 
-    private void bytes(String[] words) {
+    private void addByteRows(String[] words) {
         int a = Integer.parseInt(words[2]);
         int b = Integer.parseInt(words[3]);
         boolean zero = words[0].equals("zero");
@@ -192,7 +192,7 @@ final class Scene {
                 String what = title + "\n    changed by " + row.call + ": ";
                 check.due(what + "handles", handles(after(k, row.call)), handles(after(k)));
                 check.due(what + "kinds", kinds(after(k, row.call)), kinds(after(k)));
-                check.due(what + "bytes", bytes(k, row.call), bytes(k));
+                check.due(what + "bytes", allBytes(k, row.call), allBytes(k));
             }
         }
     }
@@ -220,7 +220,7 @@ final class Scene {
     }
 
     /** All bytes, from several objects, since one is good for few calls. */
-    private String bytes(int first, String... more) {
+    private String allBytes(int first, String... more) {
         StringBuilder all = new StringBuilder();
         HandleHeap heap = null;
         for (int at = 0; at < BYTES; at++) {
